@@ -25,8 +25,8 @@ final class Check {
     }
 
     void end() {
+        System.out.println(title + ": " + (asked - wrong) + " passed, " + wrong + " failed");
         if (wrong != 0 || asked == 0) {
-            System.out.println(title + ": " + wrong + " of " + asked + " answers are not as due");
             System.exit(1);
         }
     }
