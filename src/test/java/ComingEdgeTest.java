@@ -20,7 +20,9 @@ public final class ComingEdgeTest {
         bestIsEachFiveTimesAtMost();
         bestIsOfFewestDeeds();
         bestHasDeed0MostOften();
+        bestCanHaveLessOfDeed0();
         bestDoesDeed0First();
+        bestBehindAnotherBest();
         bestOfAChild();
         bestOfAllSixDeedsFiveTimes();
         lendingOfNothing();
@@ -28,6 +30,7 @@ public final class ComingEdgeTest {
         lendingIsForToday();
         lendingToAChildAndToAPainter();
         lendingOfSeveralSorts();
+        lendingAmongSix();
         heapOfNothing();
         heapOfJustAsMany();
         heapOfAllSix();
@@ -195,6 +198,25 @@ public final class ComingEdgeTest {
         due("then the next", x.best(0, 2), 2);
     }
 
+    private static void bestCanHaveLessOfDeed0() {
+        GreyByFriday x = Check.laid("p0,5,0,0;d4,0,0,9;d1,0,0,5;d1,0,0,9;");
+        due("five of the last one", x.best(0, -1), 45);
+        due("none of the first one", x.best(0, 0) + x.best(0, 1), 0);
+        due("five", x.best(0, 2), 5);
+        x = Check.laid("p0,9,0,0;d4,0,0,9;d1,0,0,3;");
+        due("one of the first one", x.best(0, -1), 24);
+        due("one", x.best(0, 0), 1);
+        due("and five", x.best(0, 1), 5);
+    }
+
+    private static void bestBehindAnotherBest() {
+        GreyByFriday x = Check.laid("p0,5,5,0;p0,0,0,0;p0,5,0,0;d1,0,0,1;d0,1,0,9;");
+        due("one who has much", x.best(0, 0) * 10 + x.best(0, 1), 55);
+        due("one who has nothing", x.best(1, 0) * 10 + x.best(1, 1), 0);
+        due("worth nothing", x.best(1, -1), 0);
+        due("one who has some", x.best(2, 0) * 10 + x.best(2, 1), 50);
+    }
+
     private static void bestDoesDeed0First() {
         GreyByFriday x = Check.laid("p4,2,2,0;d0,0,1,1;d2,0,0,5;");
         due("blue first takes his red ones", x.best(0, -1), 5);
@@ -273,6 +295,14 @@ public final class ComingEdgeTest {
         x = Check.laid("p0,0,4,1;p0,4,0,1;d2,2,1,1;h0,0,0;h1,0,0;");
         due("two this way, two that way", x.lending(), 4);
         due("nothing was lent", x.person(0, 1), 0);
+    }
+
+    private static void lendingAmongSix() {
+        GreyByFriday x = Check.laid("p0,0,0,0;p0,0,0,0;p0,0,0,0;p0,0,0,0;p0,0,0,0;p0,6,0,0;d1,0,0,1;"
+                + "h0,0,0;h1,0,0;h2,0,0;h3,0,0;h4,0,0;h5,0,0;");
+        due("one to each", x.lending(), 5);
+        x.sell(5, 0, 1);
+        due("one too few", x.lending(), NONE);
     }
 
     private static void heapOfNothing() {

@@ -22,6 +22,7 @@ public final class PastEdgeTest {
         spentInPlaceOfWhatIsTold();
         spentNoneAheadOfDeed0();
         spentAheadOfTheRation();
+        spentAcrossAnyDay6();
         spentAtTheSea();
         spentFromTheDayThatAsks();
         savedNow();
@@ -39,6 +40,7 @@ public final class PastEdgeTest {
         aYearOf60Days();
         aYearByTheLastDraw();
         aYearWithoutDeeds();
+        aYearIsWorthItsOwnDeeds();
         aYearIsGreyAheadOfTheRation();
         twoKeptAtMost();
         backToTheLastKept();
@@ -262,6 +264,25 @@ public final class PastEdgeTest {
         due("Saturday's end brings nothing", y.spent(0, 0), 0);
     }
 
+    /** From each weekday on: the d-th DAY ends a week just if it is a Sunday. */
+    private static void spentAcrossAnyDay6() {
+        for (int weekday = 0; weekday <= 6; weekday++) {
+            for (int day = 1; day <= 3; day++) {
+                GreyByFriday x = Check.laid("p0,1,0,0;d1,0,0,1;");
+                if (weekday > 0) {
+                    x.pass(weekday);
+                }
+                x.seen(0, day, 0);
+                x.seen(0, day + 1, 1);
+                boolean sunday = weekday + day - 1 == 6;
+                String label = "grey on day " + day + " from weekday " + weekday + ", red on the next";
+                due(label, x.spent(0, 0), sunday ? day : 0);
+                due(label + ": the deed", x.spent(0, day), sunday ? 0 : NONE);
+                due(label + ": no deed then", x.spent(0, day + 1), NONE);
+            }
+        }
+    }
+
     private static void spentAtTheSea() {
         GreyByFriday x = Check.laid("p2,0,0,2;d0,0,1,1;");
         x.seen(0, 1, 0);
@@ -461,6 +482,14 @@ public final class PastEdgeTest {
         due("grey by the sea each day", x.year(77, 60, 0), 60);
         due("what -1", x.year(77, 60, -1), BAD);
         due("what 2", x.year(77, 60, 2), BAD);
+    }
+
+    private static void aYearIsWorthItsOwnDeeds() {
+        GreyByFriday x = Check.laid("p0,9,0,0;p0,0,0,0;d1,0,0,4;h0,0,0;");
+        x.act(0, 0);
+        due("not what was done ahead", x.year(0, 1, 1), 4);
+        due("what was done ahead", x.person(0, 6), 4);
+        due("who can not does not", Check.laid("p0,0,0,0;d1,0,0,4;").year(0, 60, 1), 0);
     }
 
     private static void aYearIsGreyAheadOfTheRation() {

@@ -40,6 +40,7 @@ public final class TextEdgeTest {
         laidIsOfAPersonAtLeast();
         laidIsWithoutFault();
         layBeginsAnew();
+        aSmallerStreetBehindALargerOne();
         layLeavesTheText();
         layThatIsRefusedChangesNothing();
         check.end();
@@ -399,6 +400,25 @@ public final class TextEdgeTest {
         due("nothing told by the other street", x.told(0, 2), NONE);
         due("room to keep", x.keep(), 1);
         due("room to keep", x.keep(), 2);
+    }
+
+    private static void aSmallerStreetBehindALargerOne() {
+        String large = "p1,9,9,9;".repeat(6) + "d1,0,0,9;".repeat(6) + "h5,0,5;h1,0,5;c9;";
+        for (String small : new String[] {"p0,0,0,0;", "p0,1,0,0;d0,1,0,0;", "p2,3,0,1;d1,0,0,1;d1,0,1,5;h0,0,1;",
+            "p4,2,2,2;p3,1,1,1;d1,1,1,4;h1,0,0;"}) {
+            GreyByFriday x = Check.laid(large);
+            Whole.comes(x);
+            x.pass(30);
+            // Twice, for the second time is on what the first one left.
+            for (int time = 0; time < 2; time++) {
+                Check.written(x, small);
+                x.lay();
+                GreyByFriday y = Check.laid(small);
+                check.due("state of " + small, Check.state(x), Check.state(y));
+                check.due("what comes of " + small, Whole.comes(x), Whole.comes(y));
+                due("levy of " + small, x.levy(0, 99), y.levy(0, 99));
+            }
+        }
     }
 
     private static void layLeavesTheText() {

@@ -28,6 +28,22 @@ final class Whole {
         return all.append("|wipe ").append(x.wipe()).toString();
     }
 
+    /** What comes, as far as it can be asked without telling anything. */
+    static String comes(GreyByFriday x) {
+        StringBuilder all = new StringBuilder();
+        all.append(x.grey(0)).append(' ').append(x.grey(1)).append(' ').append(x.lending());
+        all.append(' ').append(x.heap(1, 1, 1)).append(' ').append(x.heap(9, 0, 0));
+        all.append(' ').append(x.year(5, 60, 0)).append(' ').append(x.year(5, 60, 1));
+        for (int i = 0; i < x.count(0); i++) {
+            for (int k = -1; k < x.count(1); k++) {
+                all.append(' ').append(x.best(i, k));
+            }
+            all.append(' ').append(x.behind(60, i, 0)).append(' ').append(x.behind(60, i, 4));
+            all.append(' ').append(x.saved(i, 0, 9));
+        }
+        return all.toString();
+    }
+
     private static String things(GreyByFriday x) {
         StringBuilder all = new StringBuilder().append(x.count(3));
         for (int i = 0; i < x.count(0); i++) {
