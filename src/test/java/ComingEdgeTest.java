@@ -199,7 +199,7 @@ public final class ComingEdgeTest {
     }
 
     private static void bestCanHaveLessOfDeed0() {
-        GreyByFriday x = Check.laid("p0,5,0,0;d4,0,0,9;d1,0,0,5;d1,0,0,9;");
+        GreyByFriday x = Check.laid("p0,5,0,0;d4,0,0,9;d1,0,0,1;d1,0,0,9;");
         due("five of the last one", x.best(0, -1), 45);
         due("none of the first one", x.best(0, 0) + x.best(0, 1), 0);
         due("five", x.best(0, 2), 5);

@@ -38,6 +38,7 @@ public final class DayEdgeTest {
         undoneAndDoneAgainPastTheEnd();
         whatIsRefusedOrAskedCanNotBeUndone();
         manyDaysAreUndoneAtOnce();
+        theLastOf512Calls();
         check.end();
     }
 
@@ -474,5 +475,18 @@ public final class DayEdgeTest {
         due("three days", x.count(3), 3);
         due("the earlier ones", x.undo(), 0);
         due("no days", x.count(3), 0);
+    }
+
+    private static void theLastOf512Calls() {
+        GreyByFriday x = new GreyByFriday();
+        for (int call = 1; call < 512; call++) {
+            due("pass, call " + call, x.pass(30), call * 30 % 7);
+        }
+        due("days, call 512", x.count(3), 511 * 30);
+        x = new GreyByFriday();
+        for (int call = 1; call < 512; call++) {
+            due("write, call " + call, x.write('c'), call <= 200 ? call : FULL);
+        }
+        due("letters, call 512", x.count(9), 200);
     }
 }
