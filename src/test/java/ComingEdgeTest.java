@@ -22,6 +22,7 @@ public final class ComingEdgeTest {
         bestHasDeed0MostOften();
         bestCanHaveLessOfDeed0();
         bestDoesDeed0First();
+        bestMayNeedADeedThatIsWorthNothing();
         bestBehindAnotherBest();
         bestOfAChild();
         bestOfAllSixDeedsFiveTimes();
@@ -225,6 +226,17 @@ public final class ComingEdgeTest {
         x = Check.laid("p4,2,2,0;d2,0,0,5;d0,0,1,1;");
         due("red first leaves his yellow ones", x.best(0, -1), 6);
         due("both", x.best(0, 0) * 10 + x.best(0, 1), 11);
+    }
+
+    private static void bestMayNeedADeedThatIsWorthNothing() {
+        GreyByFriday x = Check.laid("p4,4,4,1;p4,4,4,1;d1,0,0,0;d0,0,2,5;d2,0,0,5;");
+        x.act(1, 1);
+        check.due("at once he mixes of red", Check.thimbles(x, 1), "2,4,0");
+        due("and has red for one more", x.best(1, -1), 5);
+        due("a red one less, and he mixes of yellow", x.best(0, -1), 15);
+        due("worth nothing", x.best(0, 0), 1);
+        due("mixed of yellow", x.best(0, 1), 1);
+        due("red, and red mixed of yellow", x.best(0, 2), 2);
     }
 
     private static void bestOfAChild() {
